@@ -649,13 +649,17 @@ public final class MeanTown {
 
         int reachedSet() {
             int set = fixedSet();
+            int lastReached = set;
             // the farthest house is fewer steps away than there are houses
-            for (int step = 0; step < size; step++) {
+            for (int step = 0; step < size && lastReached != 0; step++) {
+                int beside = 0;
                 for (int h = 0; h < size; h++) {
-                    if (isIn(set, h)) {
-                        set |= besideSet(h);
+                    if (isIn(lastReached, h)) {
+                        beside |= besideSet(h);
                     }
                 }
+                lastReached = beside & ~set;
+                set |= lastReached;
             }
             return set;
         }

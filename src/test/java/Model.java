@@ -1,3 +1,4 @@
+import java.math.BigInteger;
 import java.util.ArrayList;
 import java.util.HashSet;
 import java.util.List;
@@ -275,7 +276,7 @@ final class Model {
                     number += c;
                     continue;
                 }
-                if (new java.math.BigInteger(number).intValueExact() > 99) {
+                if (new BigInteger(number).compareTo(BigInteger.valueOf(99)) > 0) {
                     return -20 - first;
                 }
                 t.houses.add(new House(kind, Integer.parseInt(number)));

@@ -177,6 +177,10 @@ public final class YearsTest {
         MeanTown none = owned("g0,g0,p0,p0,p0;01=1,02=1,13=1,04=2,14=1,24=2,34=2", 21, 0, 1, 1, 0, 1);
         due.is("no rest: how many", none.rests(0, 1, 0), 0);
         due.is("no rest: the first", none.rests(0, 1, 1), NONE);
+        MeanTown zero = owned("g9,g9,f10,p0;23=1,03=1", 5, 0, 1, 2, 0);
+        due.is("asking 0 is best for the first alone", zero.rests(0, 1, 0), 10);
+        due.is("the first asks 0", zero.rests(0, 1, 1), 0);
+        due.is("as many the other way round", zero.rests(1, 0, 0), 10);
     }
 
     private static void bought() {
@@ -198,6 +202,9 @@ public final class YearsTest {
             due.is("bought limit " + far, x.bought(1, far, 0), BAD);
             due.is("bought v " + far, x.bought(1, 99, far), BAD);
         }
+        MeanTown fewest = Due.townOf("p0,p0,p0,p0,g90;32=1,20=1,21=1,04=1,14=1");
+        due.is("one of more, not two of less", fewest.bought(3, 20, 0), 4);
+        due.is("one is enough", fewest.bought(3, 30, 0), 1);
         MeanTown fraction = Due.townOf("g10,p0,g11;01=1,12=1");
         due.is("10 1/2 is more than 10", fraction.bought(1, 10, 0), NONE);
         due.is("10 1/2 is no more than 11", fraction.bought(1, 11, 0), 0);
