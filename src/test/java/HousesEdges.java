@@ -62,6 +62,29 @@ final class HousesEdges {
         due.changesNothing(MeanTown::new, y -> x.purse(1));
     }
 
+    @Sentence(promise = 1, says = "An object is used for at most 512 calls after it has been made")
+    static void callNumber512IsAnswered(Due due) {
+        MeanTown x = new MeanTown();
+        x.house(1, 10);
+        x.house(0, 0);
+        x.share(0, 1, 1);
+        for (int call = 4; call <= 510; call++) {
+            x.ask(0, call % 100);
+        }
+        due.is("call 511", x.year(), 1);
+        due.is("call 512", x.told(1, 1), 10);
+    }
+
+    @Sentence(promise = 1, says = "BAD -1 (a number is not as told, there is no such thing), NOT -2 (as told), FULL -3")
+    static void refusedAnswersHaveTheirNumbers(Due due) {
+        int[] got = {MeanTown.BAD, MeanTown.NOT, MeanTown.FULL, MeanTown.NONE, MeanTown.NULL, MeanTown.CAST,
+            MeanTown.INDEX, MeanTown.SIZE};
+        int[] want = {-1, -2, -3, -4, -11, -12, -13, -14};
+        for (int k = 0; k < want.length; k++) {
+            due.is("constant " + k, got[k], want[k]);
+        }
+    }
+
     // ---- promise 2: house
 
     @Sentence(promise = 2, says = "A HOUSE: its number")

@@ -71,6 +71,18 @@ final class OwnersEdges {
         incomeIs(due, x, 0, 199, 1);
     }
 
+    @Sentence(promise = 18, says = "RENTS of the LET HOUSES, together")
+    static void incomeOfEightHouses(Due due) {
+        MeanTown x = Due.townOf("g1,f2,g3,f4,g5,f6,g7,f50");
+        incomeIs(due, x, 0, 78, 1);
+        x.set(0, 0, 3);
+        x.set(7, 0, 3);
+        incomeIs(due, x, 3, 51, 1);
+        Due.write(x, "g1,f2");
+        x.town();
+        incomeIs(due, x, 0, 3, 1);
+    }
+
     @Sentence(promise = 18, says = "LET is a REACHED HOUSE")
     static void unreachedHouseIsNotLet(Due due) {
         incomeIs(due, Due.townOf("p7,p8;01=1"), 0, 0, 1);
@@ -217,6 +229,19 @@ final class OwnersEdges {
         MeanTown x = owned("g0,g0", 0, 0, 1);
         due.is("all", x.rests(0, 1, 0), 100);
         due.is("the first of all", x.rests(0, 1, 1), 0);
+        due.is("the first, other way round", x.rests(1, 0, 1), 0);
+    }
+
+    /** The first gate has most by 0, as a house beside it is let then alone; the second has nothing. */
+    @Sentence(promise = 20, says = "each one of 0, 11, 22 .. 99, by which neither OWNER would have more")
+    static void onlyAsking0RestsForOneGate(Due due) {
+        MeanTown x = owned("g9,g9,f10,p0;23=1,03=1", 5, 0, 1, 2, 0);
+        due.is("0 and each of ten", x.rests(0, 1, 0), 10);
+        due.is("the first", x.rests(0, 1, 1), 0);
+        x.purse(40);
+        due.is("and then another", x.rests(0, 1, 1), 3333);
+        x.purse(5);
+        due.is("each of ten and 0", x.rests(1, 0, 0), 10);
         due.is("the first, other way round", x.rests(1, 0, 1), 0);
     }
 

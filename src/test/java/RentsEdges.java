@@ -473,6 +473,16 @@ final class RentsEdges {
         pulledIs(due, x, 1, 2, -6, 1);
     }
 
+    @Sentence(promise = 15, says = "its SHARES are 0")
+    static void firstAndLastHouseLoseTheirShares(Due due) {
+        MeanTown x = Due.townOf("p0,g10,p0,p0,p0,p0,g70,p0;01=1,02=1,07=1,67=1");
+        due.isFraction("rent of 0", x.rent(0, 0), x.rent(0, 1), 30, 1);
+        pulledIs(due, x, 7, 0, -20, 1);
+        pulledIs(due, x, 7, 2, -20, 1);
+        pulledIs(due, x, 0, 7, 20, 1);
+        pulledIs(due, x, 1, 0, 40, 1);
+    }
+
     @Sentence(promise = 15, says = "told above (part 0) and below (part 1; above 0)")
     static void pulledBelow0IsSoAbove(Due due) {
         MeanTown x = Due.townOf("g0,p0,g1;01=1,12=1");

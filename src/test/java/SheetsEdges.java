@@ -107,12 +107,15 @@ final class SheetsEdges {
     @Sentence(promise = 24, says = "NULL")
     static void bookOfAMissingSheet(Due due) {
         MeanTown x = twoHouses();
-        for (int s = 0; s <= 3; s++) {
-            due.is("never there", x.book(s, 0, 0), NULL);
+        for (int lane = 0; lane <= 2; lane++) {
+            for (int s = 0; s <= 3; s++) {
+                due.is("never there", x.book(s, lane, 0), NULL);
+            }
         }
         x.sheet(0, 0, 4);
         x.drop(0);
         due.is("dropped", x.book(0, 0, 0), NULL);
+        due.is("dropped, as of another lane", x.book(0, 1, 0), NULL);
     }
 
     @Sentence(promise = 24, says = "CAST")
@@ -150,6 +153,18 @@ final class SheetsEdges {
                 due.is(no + " at " + place, x.book(0, 2, 0), NOT);
             }
         }
+    }
+
+    @Sentence(promise = 24, says = "NOT: one is not 0 .. 99")
+    static void bookOfEightWithOneWrongAsking(Due due) {
+        MeanTown x = Due.townOf("p0,p0,p0,p0,p0,p0,p0,p0");
+        x.sheet(0, 0, 16);
+        for (int place = 0; place < 16; place++) {
+            x.item(0, 0, place, 100);
+            due.is("100 at " + place, x.book(0, 0, 0), NOT);
+            x.item(0, 0, place, 0);
+        }
+        due.is("none is wrong", x.book(0, 0, 0), NONE);
     }
 
     @Sentence(promise = 24, says = "NOT: one is not 0 .. 99")
@@ -267,12 +282,15 @@ final class SheetsEdges {
     @Sentence(promise = 25, says = "NULL")
     static void filmToAMissingSheet(Due due) {
         MeanTown x = twoHouses();
-        for (int s = 0; s <= 3; s++) {
-            due.is("never there", x.film(s, 0, 0), NULL);
+        for (int lane = 0; lane <= 2; lane++) {
+            for (int s = 0; s <= 3; s++) {
+                due.is("never there", x.film(s, lane, 0), NULL);
+            }
         }
         x.sheet(0, 0, 4);
         x.drop(0);
         due.is("dropped", x.film(0, 0, 0), NULL);
+        due.is("dropped, as of another lane", x.film(0, 1, 0), NULL);
     }
 
     @Sentence(promise = 25, says = "CAST")
@@ -555,12 +573,15 @@ final class SheetsEdges {
     @Sentence(promise = 28, says = "NULL")
     static void itemOfAMissingSheet(Due due) {
         MeanTown x = new MeanTown();
-        for (int s = 0; s <= 3; s++) {
-            due.is("never there", x.item(s, 0, 0, 1), NULL);
+        for (int lane = 0; lane <= 2; lane++) {
+            for (int s = 0; s <= 3; s++) {
+                due.is("never there", x.item(s, lane, 0, 1), NULL);
+            }
         }
         x.sheet(0, 0, 1);
         x.drop(0);
         due.is("dropped", x.item(0, 0, 0, 1), NULL);
+        due.is("dropped, as of another lane", x.item(0, 1, 0, 1), NULL);
     }
 
     @Sentence(promise = 28, says = "CAST -12 (of SHEETS another LANE)")
@@ -704,6 +725,10 @@ final class SheetsEdges {
         due.is("to nothing", x.copy(0, 0, 1, 0, 1), NULL);
         due.is("from nothing", x.copy(1, 0, 0, 0, 1), NULL);
         due.is("none from nothing", x.copy(1, 0, 0, 0, 0), NULL);
+        x.sheet(1, 2, 4);
+        x.drop(1);
+        due.is("from what was longs to bytes", x.copy(1, 0, 0, 0, 1), NULL);
+        due.is("from bytes to what was longs", x.copy(0, 0, 1, 0, 1), NULL);
     }
 
     @Sentence(promise = 29, says = "CAST: of unlike LANES")

@@ -210,6 +210,18 @@ final class YearsEdges {
         due.is("the last one is reached", Due.townOf("g5,p5,p5,p0;01=1,12=1,13=1").near(4), 1);
     }
 
+    @Sentence(promise = 17, says = "all REACHED HOUSES ask what is no farther")
+    static void firstAndLastHouseCount(Due due) {
+        MeanTown x = Due.townOf("p0,g5,g5,g5,g5,g5,g5,p0;01=1,67=1");
+        due.is("both are far", x.near(4), 1);
+        x.ask(7, 5);
+        due.is("the first is far", x.near(4), 1);
+        x.ask(0, 5);
+        due.is("none is far", x.near(4), 0);
+        x.ask(7, 0);
+        due.is("the last is far", x.near(4), 1);
+    }
+
     @Sentence(promise = 17, says = "for the first time")
     static void nearNowAndFarThen(Due due) {
         MeanTown x = Due.townOf("g10,c10;01=1");
