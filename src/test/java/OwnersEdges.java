@@ -143,6 +143,15 @@ final class OwnersEdges {
         }
     }
 
+    /** By 1 below 0 the owner would have 9, by 1 above 99 150, if a gate could ask that. */
+    @Sentence(promise = 19, says = "that asking (0 .. 99)")
+    static void noAskingBeyondTheEdgesIsBest(Due due) {
+        MeanTown low = owned("g0,f11,p0,p0;02=1,12=1,03=1,13=1", 5, 0, 1, 0, 0);
+        due.is("two houses too dear by 0", low.best(0), 5);
+        MeanTown high = owned("g0,f0,p0,p0,p0;02=1,12=1,03=1,13=1,04=1,14=1", 50, 1, 0, 1, 1, 1);
+        due.is("three houses dearest by 100", high.best(0), 99);
+    }
+
     /** By 40 the owner has 40 and twice 20, by 80 twice 40; with a third house 120 by 80. */
     @Sentence(promise = 19, says = "of like ones the least")
     static void leastOfLikeAskings(Due due) {
