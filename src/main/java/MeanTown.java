@@ -768,8 +768,9 @@ public final class MeanTown {
 
         /**
          * Fractions are never needed: each new number is a determinant of the first ones, so it
-         * divides without rest. These are below 2^30, so no product of two is too long. The
-         * divisors are above 0, as each open house has a way to a fixed one.
+         * divides without rest. By Hadamard's bound these are below 1.6 * 10^9, so no difference
+         * of two products is too long. The divisors are above 0, as each open house has a way to
+         * a fixed one.
          */
         private void clearRows() {
             long divisor = 1;
